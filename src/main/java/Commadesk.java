@@ -1161,7 +1161,7 @@ public final class Commadesk {
                 return NOT_WHOLE;
             }
             long number = 0L;
-            for (int place = digits; place < to && number <= GREATEST_WHOLE; place++) {
+            for (int place = digits; place < to && number <= -LEAST_WHOLE; place++) {
                 number = number * 10L + (text.charAt(place) - '0');
             }
             number = isNegative ? -number : number;

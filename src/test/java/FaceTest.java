@@ -1,0 +1,87 @@
+import java.lang.reflect.Constructor;
+import java.lang.reflect.Field;
+import java.lang.reflect.Member;
+import java.lang.reflect.Method;
+import java.lang.reflect.Modifier;
+import java.util.Arrays;
+import java.util.HashSet;
+import java.util.Set;
+import java.util.TreeSet;
+import java.util.stream.Collectors;
+
+/** The class has the document's face and no other member that can be seen (promise 1 and LANGUAGE.md, rules 1, 5, 11). */
+public final class FaceTest {
+    private static final String[] FACE = {
+        "int type(int)", "int rub(int)", "int wipe()", "int take(int,int,int)", "int mode(int,int,boolean,boolean)",
+        "int begin()", "int feed(int,int)", "int finish(int)", "int read(int)", "int write(int,boolean)", "int fix(int)",
+        "int readFixed(int,int)", "int insert(int,int,int)", "int put(int,int,int)", "int drop(int,int)", "int move(int,int,int)",
+        "int dropColumn(int,int)", "int copy(int)", "int stack(int)", "int part(int,int)", "int turn(int)",
+        "int sort(int,int,int,boolean,int)", "int filter(int,int)", "int group(int,int,int)", "int join(int,int,int)",
+        "int heads(int)", "int sample(int,int,int)", "int undo()", "String text()", "int rows(int)", "int fields(int,int)",
+        "String cell(int,int,int)", "boolean isEven(int)", "int headed(int)", "int find(int,int,int)", "int typeOf(int,int,int)",
+        "int wrong(int,int,int)", "long total(int,int)", "int written(int,boolean)", "String page(int,int,int)",
+        "String differences(int)", "int guess()", "int filterFault()", "boolean passes(int,int)", "int fault(int,int)",
+        "int desk(int)", "boolean isSound()", "int knock()", "long digest()"};
+    private static int wrong;
+
+    private static void hold(boolean isSo, String what) {
+        if (!isSo) {
+            wrong++;
+            System.out.println("does not hold: " + what);
+        }
+    }
+
+    private static String told(Method method) {
+        return method.getReturnType().getSimpleName() + " " + method.getName() + Arrays.stream(method.getParameterTypes())
+            .map(Class::getSimpleName).collect(Collectors.joining(",", "(", ")"));
+    }
+
+    private static boolean isSeen(Member member) {
+        return !Modifier.isPrivate(member.getModifiers()) && !member.isSynthetic();
+    }
+
+    public static void main(String[] args) {
+        Class<?> face = Commadesk.class;
+        hold(Modifier.isPublic(face.getModifiers()) && Modifier.isFinal(face.getModifiers()), "public and final");
+        Set<String> seen = new TreeSet<>();
+        Set<String> names = new HashSet<>();
+        for (Method method : face.getDeclaredMethods()) {
+            if (!isSeen(method)) continue;
+            seen.add(told(method));
+            names.add(method.getName());
+            hold(Modifier.isPublic(method.getModifiers()) && !Modifier.isStatic(method.getModifiers()), told(method) + " is public");
+        }
+        hold(seen.equals(new TreeSet<>(Arrays.asList(FACE))), "the face is the document's, not " + seen);
+        for (Constructor<?> made : face.getDeclaredConstructors()) {
+            hold(Modifier.isPublic(made.getModifiers()) && made.getParameterCount() == 0, "one constructor");
+        }
+        int classes = 1;
+        checkClass(face, names, true);
+        for (Class<?> inside : face.getDeclaredClasses()) {
+            classes++;
+            hold(Modifier.isStatic(inside.getModifiers()) && !Modifier.isPublic(inside.getModifiers()), inside + " is static");
+            checkClass(inside, names, false);
+        }
+        hold(classes <= 12, "at most twelve classes, not " + classes);
+        if (wrong != 0) System.exit(1);
+        System.out.println("the face is as due");
+    }
+
+    private static void checkClass(Class<?> it, Set<String> names, boolean isFace) {
+        int own = 0;
+        for (Field field : it.getDeclaredFields()) {
+            if (isFace) hold(!isSeen(field), field + " is private");
+            if (Modifier.isStatic(field.getModifiers())) {
+                hold(Modifier.isFinal(field.getModifiers()), field + " is final");
+            } else {
+                own++;
+            }
+        }
+        hold(own <= 20, it + " has " + own + " fields");
+        for (Method method : it.getDeclaredMethods()) {
+            hold(method.getParameterCount() <= 7, told(method) + " has at most seven parameters");
+            hold(!method.isSynthetic(), told(method) + " is no lambda");
+            if (!isFace || !isSeen(method)) hold(!names.contains(method.getName()), told(method) + " bears a public name");
+        }
+    }
+}
