@@ -130,7 +130,7 @@ public final class Commadesk {
 
     public int begin() {
         int had = reader.stage == NOT_BEGUN ? NONE : reader.kept;
-        reader.restart(mode);
+        reader.restartRows(mode);
         return had;
     }
 
@@ -152,7 +152,7 @@ public final class Commadesk {
 
     public int read(int table) throws IndexOutOfBoundsException {
         Table it = checkedTable(table);
-        reader.restart(mode);
+        reader.restartRows(mode);
         stepThroughText(reader, 0, text.length());
         endReadingInto(it);
         return it.size();
@@ -1155,17 +1155,22 @@ public final class Commadesk {
         }
 
         static long numberBetween(String text, int from, int to) {
-            boolean isNegative = isSignAt(text, from, to, '-');
-            int digits = isNegative ? from + 1 : from;
-            if (digits >= to || !areDigits(text, digits, to)) {
+            if (from < 0 || from >= to || to > text.length()) {
                 return NOT_WHOLE;
             }
+            boolean isNegative = text.charAt(from) == '-';
+            int digits = isNegative ? from + 1 : from;
             long number = 0L;
-            for (int place = digits; place < to && number <= -LEAST_WHOLE; place++) {
-                number = number * 10L + (text.charAt(place) - '0');
+            for (int place = digits; place < to; place++) {
+                int digit = text.charAt(place) - '0';
+                if (digit < 0 || digit > 9) {
+                    return NOT_WHOLE;
+                }
+                // A number that is out of range already stays as it is, so that many digits never wrap around.
+                number = number > -LEAST_WHOLE ? number : number * 10L + digit;
             }
             number = isNegative ? -number : number;
-            return number < LEAST_WHOLE || number > GREATEST_WHOLE ? NOT_WHOLE : number;
+            return digits == to || number < LEAST_WHOLE || number > GREATEST_WHOLE ? NOT_WHOLE : number;
         }
 
         // Those of a type as a column's type counts them: whole ones are decimal too, all are of the last.
@@ -1181,7 +1186,7 @@ public final class Commadesk {
         }
 
         private static boolean isDecimal(String text) {
-            int digits = isSignAt(text, 0, text.length(), '-') ? 1 : 0;
+            int digits = !text.isEmpty() && text.charAt(0) == '-' ? 1 : 0;
             int point = text.indexOf('.');
             return point > digits && point + 1 < text.length()
                     && areDigits(text, digits, point) && areDigits(text, point + 1, text.length());
@@ -1212,10 +1217,6 @@ public final class Commadesk {
                 return isLeap ? 29 : 28;
             }
             return month == 4 || month == 6 || month == 9 || month == 11 ? 30 : 31;
-        }
-
-        private static boolean isSignAt(String text, int place, int to, char sign) {
-            return place >= 0 && place < to && place < text.length() && text.charAt(place) == sign;
         }
 
         private static boolean areDigits(String text, int from, int to) {
@@ -1570,8 +1571,8 @@ public final class Commadesk {
         private final StringBuilder field = new StringBuilder();
         private final Word[] cells = new Word[MOST_FIELDS];
 
-        void restart(Mode by) {
-            super.restart(by);
+        void restartRows(Mode by) {
+            restart(by);
             keptRows.clear();
             field.setLength(0);
         }

@@ -84,6 +84,13 @@ public final class PromisesTest {
 
     private static String times(String what, int many) { return what.repeat(many); }
 
+    /** Forty texts by rising texts, each with the same sign ahead of it and the same signs behind. */
+    private static String many(String ahead, String behind) {
+        StringBuilder out = new StringBuilder();
+        for (int i = 0; i < 40; i++) out.append(ahead).append((char) ('a' + i / 10)).append(i % 10).append(behind);
+        return out.toString();
+    }
+
     static void p1() {
         Commadesk x = new Commadesk();
         due("", x.text());
@@ -326,6 +333,9 @@ public final class PromisesTest {
         due("\"a\\\"\\\\\",b\\\n", e.text());
         e.write(0, true);
         due("\"a\\\"\\\\\",\"b\\\\\"\n", e.text());
+        Commadesk ahead = loaded("\",a\",\"\"\"a\",\"\na\",\"a,\"\n");
+        ahead.write(0, false);
+        due("\",a\",\"\"\"a\",\"\na\",\"a,\"\n", ahead.text());
         Commadesk full = typed(times("a", 299));
         full.read(0);
         full.wipe();
@@ -608,6 +618,9 @@ public final class PromisesTest {
         due(",1,0/a,4,0/b,3,0", shown(x, 1));
         due(3, x.group(1, 0, 1));
         due(",1,1/a,1,4/b,1,3", shown(x, 0));
+        Commadesk full = loaded(many("a", "\n"));
+        due(40, full.group(0, 0, 0));
+        due(many("a", ",1,0/"), shown(full, 1) + "/");
         noIndex(() -> x.group(2, 0, 0));
         noIndex(() -> x.group(0, 8, 0));
         noIndex(() -> x.group(0, 0, 8));
@@ -675,6 +688,9 @@ public final class PromisesTest {
         noArgument(() -> x.sample(0, 65537, 1));
         noArgument(() -> x.sample(0, 0, 0));
         noArgument(() -> x.sample(0, 0, 11));
+        Commadesk only = loaded("a\n");
+        due(1, only.sample(0, 9, 2));
+        due("a/a", shown(only, 1));
         Commadesk none = new Commadesk();
         noState(() -> none.sample(0, 0, 1));
         noArgument(() -> none.sample(0, 0, 11));
@@ -720,6 +736,10 @@ public final class PromisesTest {
             x.undo();
             due(was, both(x));
         }
+        Commadesk headed = loaded("a,a\n");
+        headed.heads(0);
+        headed.undo();
+        due("a,a", shown(headed, 0));
         // calls by which nothing becomes otherwise count, too
         Commadesk same = loaded("a\nb\n");
         same.move(0, 0, 0);
@@ -855,7 +875,8 @@ public final class PromisesTest {
         due(4, typeOf("2024-02-29", "0001-01-01", "9999-12-31", "2000-02-29", "2023-02-28", "2023-04-30", "2023-07-31", "2023-08-31"));
         for (String not : new String[] {"2023-02-29", "1900-02-29", "2024-02-30", "0000-01-01", "2023-00-01", "2023-13-01",
             "2023-01-00", "2023-01-32", "2023-04-31", "2023-06-31", "2023-09-31", "2023-11-31", "2023-1-01", "2023-01-1", "2023-01-011",
-            "-023-01-01", "2023.01.01", "2023-01.01", "2023-0101", "a023-01-01", "2023-01-0a", "2023-0a-01"}) due(5, typeOf(not));
+            "-023-01-01", "2023.01.01", "2023-01.01", "2023-0101", "a023-01-01", "2023-01-0a", "2023-0a-01",
+            "202:-01-01", "20-3-01-01", "2023-0:-01", "2023-01-0:", "2023-1--01", "2023-01-1-"}) due(5, typeOf(not));
         due(4, typeOf("2023-01-31", "2023-03-31", "2023-05-31", "2023-10-31", "2023-12-31", "2400-02-29"));
         due(5, typeOf("1", "2024-02-29"));
         Commadesk x = loaded("head,1\n1,yes\n2\n");
@@ -927,6 +948,17 @@ public final class PromisesTest {
         due("\"c,d\"\n", x.page(0, 1, 1));
         due("\"c,d\"\n", x.page(0, 1, 1));
         due("", x.page(1, 0, 40));
+        due("e\n", x.page(0, 2, 1));
+        type(x, "f").put(0, 2, 0);
+        due("f\n", x.page(0, 2, 1));
+        type(x, "ae").insert(0, 0, 1);
+        x.put(0, 0, 0);
+        due("ae\n", x.page(0, 0, 1));
+        type(x, "be").put(0, 0, 0);
+        due("be\n", x.page(0, 0, 1));
+        type(x, "bf").put(0, 0, 0);
+        due("bf\n", x.page(0, 0, 1));
+        x.drop(0, 0);
         x.mode(1, 1, false, false);
         due("c,d\n", x.page(0, 1, 1));
         noIndex(() -> x.page(2, -1, 0));
@@ -953,6 +985,11 @@ public final class PromisesTest {
         due("", x.differences(0));
         noIndex(() -> x.differences(8));
         noIndex(() -> x.differences(-1));
+        Commadesk full = loaded(many("a", "\n"));
+        load(full, 1, many("b", "\n"));
+        due(many("-a", "\n") + many("+b", "\n"), full.differences(0));
+        full.copy(0);
+        due("", full.differences(0));
         Commadesk one = loaded("b\na\na,x\n");
         due("-a\n-b\n", one.differences(0));
         due("-x\n", one.differences(1));
@@ -1179,6 +1216,16 @@ public final class PromisesTest {
         model.wipe();
         for (char c : "0=a".toCharArray()) model.type(SIGNS.indexOf(c));
         due(model.digest(), before);
+        // faults, all signs, many types and sums
+        String mixed = "a\"b,2020-02-02,5,1.5,yes\nb,\"c\"d,1,,no,x\n\"" + SIGNS;
+        type(x, mixed).read(1);
+        x.mode(2, 1, true, true);
+        model.wipe();
+        model.knock();
+        for (char c : mixed.toCharArray()) model.type(SIGNS.indexOf(c));
+        model.read(1);
+        model.mode(2, 1, true, true);
+        due(model.digest(), x.digest());
     }
 
     public static void main(String[] args) throws Exception {
