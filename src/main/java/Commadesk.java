@@ -994,6 +994,7 @@ public final class Commadesk {
                 && isSortedRightly(table) && isTurnedBack(table);
     }
 
+    // Writes and reads at once: a table can be far longer, written, than any text that could be held.
     private boolean isReadBack(Table table, boolean isAll, boolean isHalved) {
         Mode loose = new Mode(mode.separator, mode.quote, mode.isEscaped, false);
         int signs = Writer.countOf(table, loose, isAll);
