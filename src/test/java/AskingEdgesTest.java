@@ -766,6 +766,9 @@ public final class AskingEdgesTest extends Trial {
         due(digest(type(full, "a;b\nc;d")), full.digest());
         Commadesk text = typed(SIGNS);
         due(digest(text), text.digest());
+        Commadesk headed = of("name~1/1~yes//", "2.5/x/");
+        due(5, headed.typeOf(0, 0, 0));
+        due(digest(headed), headed.digest());
     }
 
     // ---- what is said of all methods

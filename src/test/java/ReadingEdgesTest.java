@@ -481,6 +481,26 @@ public final class ReadingEdgesTest extends Trial {
         due("e/", shown(x, 0));
     }
 
+    @Says(at = "promise 7", it = "A reading begins (one that had begun is gone, with its FAULTS).")
+    static void aReadingThatStoodWithinARowIsGone() {
+        Commadesk x = typed("a,b,c");
+        x.begin();
+        x.feed(0, 5);
+        x.begin();
+        x.feed(4, 5);
+        due(0, x.finish(0));
+        due("c/", shown(x, 0));
+        due(1, x.desk(8));
+        // neither do its faults leave out a row of the next one, nor is its quoted field left open
+        type(mode(x, STRICT), "a\",\"b").begin();
+        x.feed(0, 5);
+        due(QUOTED, x.desk(10));
+        x.begin();
+        x.feed(4, 5);
+        due(0, x.finish(0));
+        due("b/", shown(x, 0));
+    }
+
     // ---- promise 8: feed
 
     @Says(at = "promise 8", it = {"Reads SIGNS of the TEXT.", "Returns how many ROWS are kept."})
@@ -768,6 +788,18 @@ public final class ReadingEdgesTest extends Trial {
         due(7 * 40 + 20, fixed(40, "a".repeat(300)).length() - 8);
     }
 
+    @Says(at = "promise 13", it = "Returns how many ROWS it has then.")
+    static void theTableHasJustTheLinesOfTheLastText() {
+        Commadesk x = typed("abc\nd\n");
+        due(2, x.readFixed(0, 2));
+        due(2, x.readFixed(1, 1));
+        due("ab~c/d/ + a~b~c/d/", both(x));
+        due(1, type(x, "ef").readFixed(0, 3));
+        due("ef/ + a~b~c/d/", both(x));
+        due(0, type(x, "").readFixed(1, 3));
+        due("ef/ + ", both(x));
+    }
+
     @Says(at = "promise 13", it = "Throws `IndexOutOfBoundsException` if there is no such TABLE")
     static void readFixedTakesTwoTables() { takesTables(Trial::busy, (x, n) -> x.readFixed(n, 2)); }
 
@@ -848,6 +880,19 @@ public final class ReadingEdgesTest extends Trial {
         due(-1, guess(STRICT, "a\"\nb,c\nd,e"));
         due(0, guess(STRICT, ",".repeat(9)));
         for (int separator = 0; separator < 4; separator++) due(1, guess(8 * separator + STRICT, "a;b"));
+    }
+
+    @Says(at = "promise 43", it = "at least one, have all as many FIELDS")
+    static void guessKnowsNothingOfWhatItReadAhead() {
+        Commadesk x = typed("a,b");
+        due(0, x.guess());
+        due(-1, type(x, "").guess());
+        due(3, type(x, "a:b").guess());
+        due(-1, type(x, "").guess());
+        due(1, type(x, "a;b").guess());
+        due(-1, type(x, "a").guess());
+        due(-1, type(x, "\"|a").guess());
+        due(2, type(x, "a|b").guess());
     }
 
     // ---- promise 46: fault

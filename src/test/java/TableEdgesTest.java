@@ -656,6 +656,24 @@ public final class TableEdgesTest extends Trial {
         refuses(INDEX, () -> of(EIGHT + "/", "a~i/"), x -> x.join(2, 0, 0));
     }
 
+    @Says(at = "promise 26", it = "Returns how many ROWS it has then.")
+    static void whatWasJoinedOrGroupedAheadIsNotThereAgain() {
+        Commadesk x = of("a/b/", "a~1/b~2/");
+        due(2, x.join(0, 0, 0));
+        x.drop(1, 0);
+        due(1, x.join(0, 0, 0));
+        due("b~2~2/ + b~2/", both(x));
+        due(1, x.group(0, 0, 1));
+        due(1, x.group(0, 1, 1));
+        due("b~2~2/ + 2~1~2/", both(x));
+        due(0, x.join(1, 0, 0));
+        due(3, x.turn(0));
+        due("b/2/2/ + ", both(x));
+        due(2, x.group(0, 0, 0));
+        due(3, x.turn(1));
+        due("b/2/2/ + 2~b/2~1/4~0/", both(x));
+    }
+
     // ---- promise 27: heads
 
     private static String headsOf(String rows, int changed) {
