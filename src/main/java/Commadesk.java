@@ -1855,9 +1855,13 @@ public final class Commadesk {
             return count;
         }
 
+        private static Table tableAt(Table[] tables, int at) {
+            return at < 0 || at >= tables.length ? null : tables[at];
+        }
+
         void keep(Table first, Table second) {
-            Table keptFirst = firsts[next];
-            Table keptSecond = seconds[next];
+            Table keptFirst = tableAt(firsts, next);
+            Table keptSecond = tableAt(seconds, next);
             if (keptFirst == null || keptSecond == null) {
                 return;
             }
@@ -1869,8 +1873,8 @@ public final class Commadesk {
 
         void giveBack(Table first, Table second) {
             int last = (next + MOST_UNDONE - 1) % MOST_UNDONE;
-            Table keptFirst = firsts[last];
-            Table keptSecond = seconds[last];
+            Table keptFirst = tableAt(firsts, last);
+            Table keptSecond = tableAt(seconds, last);
             if (count < 1 || keptFirst == null || keptSecond == null) {
                 return;
             }

@@ -130,39 +130,38 @@ public final class ModelRunsTest {
                     its = m == 0 ? due::knock : () -> due.desk(d);
             }
             if (!same(number, log, answer(mine), answer(its))) return false;
-            if (draw(6) == 0 && !same(number, log.append("digest\n"), whole(it), whole(due))) return false;
+            if (draw(6) == 0 && !isWholeSame(number, log.append("digest\n"), it, due)) return false;
         }
         return same(number, log, answer(it::isSound), "true") && same(number, log, answer(it::digest), answer(due::digest));
     }
 
-    /** All that a digest sees, told apart, so that a wrong one can be read. */
-    private static String whole(Commadesk it) {
-        StringBuilder all = new StringBuilder(it.text()).append('/');
-        for (int i = 0; i <= 12; i++) all.append(it.desk(i)).append(' ');
-        for (int i = 0; i < it.desk(7); i++) for (int j = 0; j < 4; j++) all.append(j == 0 ? '/' : ' ').append(it.fault(i, j));
-        for (int t = 0; t < 2; t++) {
-            all.append('/').append(it.written(t, false)).append(' ').append(it.written(t, true)).append(it.isEven(t));
-            for (int c = 0; c < 8; c++) all.append(' ').append(it.typeOf(t, c, 0)).append(' ').append(it.total(t, c));
-            for (int r = 0; r < it.rows(t); r++) for (int c = 0; c < it.fields(t, r); c++) all.append(c == 0 ? "//" : "/").append(it.cell(t, r, c));
+    /** All that a digest sees, part by part, so that a wrong one can be read. */
+    private static boolean isWholeSame(int number, StringBuilder log, Commadesk it, Model due) {
+        boolean isSame = same(number, log, it.text(), due.text());
+        for (int i = 0; i <= 12; i++) isSame &= same(number, log, it.desk(i), due.desk(i));
+        for (int i = 0; isSame && i < due.desk(7); i++) {
+            for (int j = 0; j < 4; j++) isSame &= same(number, log, it.fault(i, j), due.fault(i, j));
         }
-        all.append('/').append(it.guess()).append(' ').append(it.filterFault()).append(it.differences(0)).append(it.isSound());
-        return all.append('/').append(it.digest()).toString();
+        for (int t = 0; isSame && t < 2; t++) isSame = isTableSame(number, log, it, due, t);
+        return isSame && same(number, log, it.guess(), due.guess()) && same(number, log, it.filterFault(), due.filterFault())
+            && same(number, log, it.differences(0), due.differences(0)) && same(number, log, it.isSound(), due.isSound())
+            && same(number, log, it.digest(), due.digest());
     }
 
-    private static String whole(Model it) {
-        StringBuilder all = new StringBuilder(it.text()).append('/');
-        for (int i = 0; i <= 12; i++) all.append(it.desk(i)).append(' ');
-        for (int i = 0; i < it.desk(7); i++) for (int j = 0; j < 4; j++) all.append(j == 0 ? '/' : ' ').append(it.fault(i, j));
-        for (int t = 0; t < 2; t++) {
-            all.append('/').append(it.written(t, false)).append(' ').append(it.written(t, true)).append(it.isEven(t));
-            for (int c = 0; c < 8; c++) all.append(' ').append(it.typeOf(t, c, 0)).append(' ').append(it.total(t, c));
-            for (int r = 0; r < it.rows(t); r++) for (int c = 0; c < it.fields(t, r); c++) all.append(c == 0 ? "//" : "/").append(it.cell(t, r, c));
+    private static boolean isTableSame(int number, StringBuilder log, Commadesk it, Model due, int t) {
+        boolean isSame = same(number, log, it.rows(t), due.rows(t)) && same(number, log, it.isEven(t), due.isEven(t))
+            && same(number, log, it.written(t, false), due.written(t, false)) && same(number, log, it.written(t, true), due.written(t, true));
+        for (int c = 0; c < 8; c++) {
+            isSame &= same(number, log, it.typeOf(t, c, 0), due.typeOf(t, c, 0)) && same(number, log, it.total(t, c), due.total(t, c));
         }
-        all.append('/').append(it.guess()).append(' ').append(it.filterFault()).append(it.differences(0)).append(it.isSound());
-        return all.append('/').append(it.digest()).toString();
+        for (int r = 0; isSame && r < due.rows(t); r++) {
+            isSame = same(number, log, it.fields(t, r), due.fields(t, r));
+            for (int c = 0; isSame && c < due.fields(t, r); c++) isSame = same(number, log, it.cell(t, r, c), due.cell(t, r, c));
+        }
+        return isSame;
     }
 
-    private static boolean same(int number, StringBuilder log, String got, String due) {
+    private static boolean same(int number, StringBuilder log, Object got, Object due) {
         if (got.equals(due)) return true;
         System.out.println("run " + number + ", after these calls:\n" + log + "answered " + got + ", due is " + due);
         return false;
