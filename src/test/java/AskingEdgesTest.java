@@ -1,5 +1,9 @@
 import java.math.BigInteger;
+import java.util.ArrayList;
+import java.util.Arrays;
+import java.util.Comparator;
 import java.util.LinkedHashMap;
+import java.util.List;
 import java.util.Map;
 import java.util.function.Function;
 
@@ -679,6 +683,39 @@ public final class AskingEdgesTest extends Trial {
                 x.feed(many / 2, many);
                 x.finish(1);
                 due("mode " + mode, table, shown(x, 1));
+            }
+        }
+    }
+
+    private static final String[] DOUBLED = {"b~1/a~1/b~2/a~2/~3/~4/", "b/a/b/a//", "c~1/b~1/a~1/c~2/b~2/a~2/c~3/", "ab/a/abc/|/\n/ /9/a~a/",
+        "a~9/a~8/a~7/a~6/a~5/", rows("b~/a", 20), risingRows(40)};
+
+    /** The rows as told, the lesser first field ahead; of like ones the row that stood ahead. */
+    private static String sorted(String table) {
+        List<String> rows = new ArrayList<>(Arrays.asList(table.split("(?<=/)")));
+        rows.removeIf(String::isEmpty);
+        rows.sort(Comparator.comparing(row -> rising(row.split("[~/]", -1)[0])));
+        return String.join("", rows);
+    }
+
+    /** A text that is as great among Java's texts as the told one is among the document's. */
+    private static String rising(String text) {
+        StringBuilder out = new StringBuilder();
+        for (char sign : text.toCharArray()) out.append((char) ('A' + RISING.indexOf(sign)));
+        return out.toString();
+    }
+
+    @Says(at = "promise 48", it = "SORTED by the text of its COLUMN 0, rising, it has the same ROWS, none behind one that has to be behind it, "
+        + "and the others in the sequence in which they were")
+    static void aSortedTableHasTheSameRows() {
+        for (String[] tables : new String[][] {AWKWARD, DOUBLED}) {
+            for (String table : tables) {
+                Commadesk x = of(table);
+                due(true, x.isSound());
+                x.sort(0, 0, 0, false, 0);
+                due(sorted(table), shown(x, 0));
+                due(0, x.sort(0, 0, 0, false, 0));
+                due(true, x.isSound());
             }
         }
     }

@@ -1,12 +1,17 @@
+import java.io.IOException;
 import java.lang.reflect.Constructor;
 import java.lang.reflect.Field;
 import java.lang.reflect.Member;
 import java.lang.reflect.Method;
 import java.lang.reflect.Modifier;
+import java.nio.file.Files;
+import java.nio.file.Path;
 import java.util.Arrays;
 import java.util.HashSet;
 import java.util.Set;
 import java.util.TreeSet;
+import java.util.regex.Matcher;
+import java.util.regex.Pattern;
 import java.util.stream.Collectors;
 
 /** The class has the document's face and no other member that can be seen (promise 1 and LANGUAGE.md, rules 1, 5, 11). */
@@ -40,7 +45,7 @@ public final class FaceTest {
         return !Modifier.isPrivate(member.getModifiers()) && !member.isSynthetic();
     }
 
-    public static void main(String[] args) {
+    public static void main(String[] args) throws IOException {
         Class<?> face = Commadesk.class;
         hold(Modifier.isPublic(face.getModifiers()) && Modifier.isFinal(face.getModifiers()), "public and final");
         Set<String> seen = new TreeSet<>();
@@ -55,6 +60,7 @@ public final class FaceTest {
         for (Constructor<?> made : face.getDeclaredConstructors()) {
             hold(Modifier.isPublic(made.getModifiers()) && made.getParameterCount() == 0, "one constructor");
         }
+        checkWords();
         int classes = 1;
         checkClass(face, names, true);
         for (Class<?> inside : face.getDeclaredClasses()) {
@@ -65,6 +71,26 @@ public final class FaceTest {
         hold(classes <= 12, "at most twelve classes, not " + classes);
         if (wrong != 0) System.exit(1);
         System.out.println("the face is as due");
+    }
+
+    /** The document's face stands in the source word by word, with what each method throws and how its arguments are named. */
+    private static void checkWords() throws IOException {
+        Path root = Path.of(System.getProperty("project.root", ".")), document = root.resolve("../shared/DOC.md");
+        if (!Files.isReadable(document)) {
+            System.out.println("the document is not there, so the face is not compared with its words");
+            return;
+        }
+        String source = Files.readString(root.resolve("src/main/java/Commadesk.java")).replaceAll("\\s+", " ");
+        String words = Files.readString(document);
+        int many = 0;
+        Matcher line = Pattern.compile("(?m)^    public [^;]*\\)[^;]*;$").matcher(words);
+        while (line.find()) {
+            many++;
+            String told = line.group().trim().replace(";", "");
+            hold(source.contains(told + " {"), "the source says: " + told);
+            hold(told.equals("public Commadesk()") || words.contains("`" + told.substring("public ".length()) + "`"), "a promise says: " + told);
+        }
+        hold(many == FACE.length + 1, "the document tells " + (FACE.length + 1) + " constructors and methods, not " + many);
     }
 
     private static void checkClass(Class<?> it, Set<String> names, boolean isFace) {

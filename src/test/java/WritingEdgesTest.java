@@ -255,6 +255,44 @@ public final class WritingEdgesTest extends Trial {
         due("a".repeat(300) + "\n", x.page(0, 2, 1));
     }
 
+    @Says(at = "promise 41", it = "Returns the ROWS from page * size on, size of them (or as many as there are), WRITTEN with least quotes")
+    static void aPageOfLongFieldsIsAsLongAsTheyAre() {
+        Commadesk x = typed("\"" + "a".repeat(299));
+        x.begin();
+        x.feed(0, 300);
+        for (int i = 1; i < 10; i++) x.feed(1, 300);
+        x.finish(0);
+        due("a".repeat(2990) + "\n", x.page(0, 0, 40));
+        x.rub(300);
+        x.type(40);
+        x.begin();
+        x.feed(0, 1);
+        type(x, "\"".repeat(300));
+        for (int i = 0; i < 10; i++) x.feed(0, 300);
+        x.finish(0);
+        due("\"".repeat(3002) + "\n", x.page(0, 0, 1));
+    }
+
+    @Says(at = "promise 41", it = "Returns the ROWS from page * size on, size of them (or as many as there are), WRITTEN with least quotes")
+    static void aPageOfAFullTable() {
+        Commadesk x = typed("ab".repeat(150));
+        x.insert(0, 0, 8);
+        for (int column = 0; column < 8; column++) x.put(0, 0, column);
+        for (int i = 0; i < 3; i++) {
+            x.copy(1);
+            x.stack(0);
+        }
+        x.copy(1);
+        for (int i = 0; i < 4; i++) x.stack(0);
+        String row = ("ab".repeat(150) + ",").repeat(7) + "ab".repeat(150) + "\n";
+        due(40, x.rows(0));
+        due(row.repeat(40), x.page(0, 0, 40));
+        due(row.repeat(13), x.page(0, 2, 13));
+        due(row, x.page(0, 3, 13));
+        due(row.repeat(40).length(), x.written(0, false));
+        due(row.repeat(40).length() + 640, x.written(0, true));
+    }
+
     @Says(at = "promise 41", it = "Throws `IndexOutOfBoundsException` if there is no such TABLE")
     static void pageTakesTwoTables() { takesTables(Trial::busy, (x, n) -> x.page(n, 0, 1)); }
 
