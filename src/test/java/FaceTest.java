@@ -1,20 +1,18 @@
 import java.io.IOException;
 import java.lang.reflect.Constructor;
-import java.lang.reflect.Field;
 import java.lang.reflect.Member;
 import java.lang.reflect.Method;
 import java.lang.reflect.Modifier;
 import java.nio.file.Files;
 import java.nio.file.Path;
 import java.util.Arrays;
-import java.util.HashSet;
 import java.util.Set;
 import java.util.TreeSet;
 import java.util.regex.Matcher;
 import java.util.regex.Pattern;
 import java.util.stream.Collectors;
 
-/** The class has the document's face and no other member that can be seen (promise 1 and LANGUAGE.md, rules 1, 5, 11). */
+/** The class has the document's face and no other member that can be seen (LANGUAGE.md, rule 1). */
 public final class FaceTest {
     private static final String[] FACE = {
         "int type(int)", "int rub(int)", "int wipe()", "int take(int,int,int)", "int mode(int,int,boolean,boolean)",
@@ -49,11 +47,9 @@ public final class FaceTest {
         Class<?> face = Commadesk.class;
         hold(Modifier.isPublic(face.getModifiers()) && Modifier.isFinal(face.getModifiers()), "public and final");
         Set<String> seen = new TreeSet<>();
-        Set<String> names = new HashSet<>();
         for (Method method : face.getDeclaredMethods()) {
             if (!isSeen(method)) continue;
             seen.add(told(method));
-            names.add(method.getName());
             hold(Modifier.isPublic(method.getModifiers()) && !Modifier.isStatic(method.getModifiers()), told(method) + " is public");
         }
         hold(seen.equals(new TreeSet<>(Arrays.asList(FACE))), "the face is the document's, not " + seen);
@@ -61,14 +57,6 @@ public final class FaceTest {
             hold(Modifier.isPublic(made.getModifiers()) && made.getParameterCount() == 0, "one constructor");
         }
         checkWords();
-        int classes = 1;
-        checkClass(face, names, true);
-        for (Class<?> inside : face.getDeclaredClasses()) {
-            classes++;
-            hold(Modifier.isStatic(inside.getModifiers()) && !Modifier.isPublic(inside.getModifiers()), inside + " is static");
-            checkClass(inside, names, false);
-        }
-        hold(classes <= 12, "at most twelve classes, not " + classes);
         if (wrong != 0) System.exit(1);
         System.out.println("the face is as due");
     }
@@ -91,23 +79,5 @@ public final class FaceTest {
             hold(told.equals("public Commadesk()") || words.contains("`" + told.substring("public ".length()) + "`"), "a promise says: " + told);
         }
         hold(many == FACE.length + 1, "the document tells " + (FACE.length + 1) + " constructors and methods, not " + many);
-    }
-
-    private static void checkClass(Class<?> it, Set<String> names, boolean isFace) {
-        int own = 0;
-        for (Field field : it.getDeclaredFields()) {
-            if (isFace) hold(!isSeen(field), field + " is private");
-            if (Modifier.isStatic(field.getModifiers())) {
-                hold(Modifier.isFinal(field.getModifiers()), field + " is final");
-            } else {
-                own++;
-            }
-        }
-        hold(own <= 20, it + " has " + own + " fields");
-        for (Method method : it.getDeclaredMethods()) {
-            hold(method.getParameterCount() <= 7, told(method) + " has at most seven parameters");
-            hold(!method.isSynthetic(), told(method) + " is no lambda");
-            if (!isFace || !isSeen(method)) hold(!names.contains(method.getName()), told(method) + " bears a public name");
-        }
     }
 }
